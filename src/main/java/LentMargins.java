@@ -580,7 +580,7 @@ public final class LentMargins {
 
         /** The last word of all ends a paragraph also if it was not set to. */
         boolean endsParagraph(int word) {
-            return word == count - 1 || wasSetToEnd(word);
+            return has(word) && (ends[word] || word == count - 1);
         }
 
         int paragraphs() {
@@ -713,7 +713,11 @@ public final class LentMargins {
                 next += row.words;
                 debt = row.debt;
             }
-            boolean back = lines - firstLine == full && leavesWidow(script, firstLine, next);
+            boolean back = false;
+            if (next < script.count && mayGiveBack(firstLine)) {
+                row.choose(script, settings, next, 0, full - 1);
+                back = script.endsParagraph(next + row.words - 1);
+            }
             if (back) {
                 lines--;
                 next = lineValue(lines, LINE_FIRST);
@@ -722,17 +726,11 @@ public final class LentMargins {
             return next;
         }
 
-        /** Whether the full page must give its last line back, lest the next page begin with a widow. */
-        private boolean leavesWidow(Script script, int firstLine, int next) {
-            int last = lines - 1;
-            if (settings[WIDOWS_FORBIDDEN] == 0 || last <= firstLine || next >= script.count) {
-                return false;
-            }
-            if (lineValue(last, LINE_ENDS) == 1) {
-                return false;
-            }
-            row.choose(script, settings, next, 0, settings[PAGE_LINES] - 1);
-            return script.endsParagraph(next + row.words - 1);
+        /** Whether the page would give its last line back, should the next page begin with a widow. */
+        private boolean mayGiveBack(int firstLine) {
+            int count = lines - firstLine;
+            boolean full = count == settings[PAGE_LINES];
+            return settings[WIDOWS_FORBIDDEN] == 1 && full && count > 1 && lineValue(lines - 1, LINE_ENDS) == 0;
         }
 
         private void addLine(int first, boolean ends) {

@@ -22,6 +22,7 @@ public final class PromisesTest {
         test.debtBound();
         test.page();
         test.widow();
+        test.widowThatIsLentTo();
         test.whole();
         test.share();
         test.unevennessAndMean();
@@ -426,6 +427,22 @@ public final class PromisesTest {
         wordIs("moved word", longer, 2, 1, 2, NONE, NONE, 0, 1, 1, 1, 18);
     }
 
+    /** Whether the next line is a widow is found with what the margins would lend to it on its new page. */
+    private void widowThatIsLentTo() {
+        LentMargins m = of("aaaaa bbbbb aaaa i./ c");
+        m.set(0, 20);
+        m.set(1, 2);
+        // aaaa i. is 22 and needs 2, which one line behind it pays.
+        pageIs("lent, so a widow", m, 0, 0, 1, 0, 0, 0, 1);
+        check.same("bbbbb begins the next page", 1, m.line(1, 1));
+        m.set(4, 1);
+        // Now need 2 is too much: aaaa stands there alone and ends nothing.
+        pageIs("not lent, so no widow", m, 0, 0, 2, 0, 0, 0, 0);
+        m.set(4, 2);
+        m.set(3, 1);
+        pageIs("too little lent", m, 0, 0, 2, 0, 0, 0, 0);
+    }
+
     private void whole() {
         LentMargins m = lending();
         m.insert(5, 12, 12, NONE, NONE);
@@ -458,6 +475,9 @@ public final class PromisesTest {
         check.sameDouble("mean", 5.0 / 3.0, m.meanEmpty());
         m.endParagraph(2, true);
         check.same("without paragraphs' ends", 0, m.unevenness());
+        LentMargins one = of("abc");
+        check.sameDouble("mean of one line", 48.0, one.meanEmpty());
+        check.same("its end is the paragraph's", 0, one.unevenness());
         LentMargins wide = of("mmmmm a");
         wide.set(0, 20);
         check.same("a line that is too wide has no empty width", 0, wide.unevenness());
@@ -485,8 +505,24 @@ public final class PromisesTest {
         // Lent: abcd i. | a abc (pays 2). Unlent: abcd | i. a | abc? i. a is 10, i. a abc 24: three lines.
         check.same("lent, two lines", 2, saves.whole(1));
         check.same("unlent, three lines", 3, saves.linesUnlent());
+        unlentOfEachMargin();
         check.same("no words", 0, new LentMargins().linesUnlent());
         check.same("no words, any measure", 0, new LentMargins().linesWith(20));
+    }
+
+    private void unlentOfEachMargin() {
+        LentMargins m = of("\"aaa i, a abc");
+        m.set(0, 20);
+        m.set(3, 0);
+        // "aaa i, is 21. Unlent: "aaa | i, a | abc, as i, a abc is 24.
+        check.same("the quote lends", 1, m.line(0, 5));
+        check.same("by the left margin", 2, m.whole(1));
+        check.same("unlent it does not", 3, m.linesUnlent());
+        m.set(3, 3);
+        m.setShare(0, 0);
+        check.same("the comma lends", 1, m.line(0, 6));
+        check.same("by the right margin", 2, m.whole(1));
+        check.same("unlent it does not either", 3, m.linesUnlent());
     }
 
     private void measureForAndEvenest() {
@@ -506,6 +542,16 @@ public final class PromisesTest {
         full.setSigns(2, NONE, NONE);
         full.removeWord(2);
         check.same("146", 146, full.measureFor(1));
+        full.insert(2, 12, 11, NONE, NONE);
+        // mno..w is 6 + 4 * 6 + 2 + 4 + 4 + 6 = 46; 146 + 2 + 46 = 194, a hyphen and a bracket more: 199.
+        check.same("194", 194, full.measureFor(1));
+        full.setShare(5, 0);
+        full.setShare(1, 0);
+        full.setSigns(2, 1, 5);
+        check.same("199", 199, full.measureFor(1));
+        full.setSigns(2, 0, 0);
+        full.setShare(0, 0);
+        check.same("200 is the greatest measure", 200, full.measureFor(1));
 
         check.same("evenest of one", 20, m.evenest(0));
         check.same("of several the least", 40, new LentMargins().evenest(20));
@@ -708,5 +754,15 @@ public final class PromisesTest {
             due = 31 * due + value;
         }
         check.same("with one word", due, m.digest());
+        m.insert(1, 1, 1, NONE, NONE);
+        due = 43262;
+        int[] two = {2, 2, 1, 1, 1, 60, 6, 3, 3, 2, 1, 0, 0, 0, 0, 50, 50, 50, 100, 100, 100, 50, 50,
+            1, 6, NONE, 3, 0, 0, 0, 0, 0, 1, 4, NONE, NONE, 0, 0, 1, 0, 8,
+            0, 0, 2, 12, 60, 0, 0, 0, 0, 0, 1, 48, 'a', '.', ' ', 'b',
+            0, 1, 0, 0, 0, 0};
+        for (int value : two) {
+            due = 31 * due + value;
+        }
+        check.same("with two words", due, m.digest());
     }
 }
