@@ -2,6 +2,16 @@
 final class Check {
     private int made = 0;
     private int wrong = 0;
+    private String test = "";
+
+    /** What is checked from now on belongs to this test. */
+    void begin(String name) {
+        test = name;
+    }
+
+    int made() {
+        return made;
+    }
 
     void same(String what, long due, long got) {
         made++;
@@ -45,7 +55,7 @@ final class Check {
     private void fault(String text) {
         wrong++;
         if (wrong <= 40) {
-            System.out.println(text);
+            System.out.println(test + text);
         }
     }
 

@@ -129,7 +129,8 @@ public final class LanguageTest {
             inComment = inComment || trimmed.startsWith("/*");
             if (!inComment && !trimmed.startsWith("//")) {
                 for (String forbidden : FORBIDDEN) {
-                    CHECK.holds("line " + (i + 1) + " without " + forbidden, !Pattern.compile(forbidden).matcher(line).find());
+                    boolean found = Pattern.compile(forbidden).matcher(line).find();
+                    CHECK.holds("line " + (i + 1) + " without " + forbidden, !found);
                 }
             }
             inComment = inComment && !trimmed.endsWith("*/");

@@ -25,7 +25,11 @@ final class Model {
         }
 
         String written() {
-            return (ahead < 0 ? "" : "" + BYTES.charAt(ahead)) + letters + (behind < 0 ? "" : "" + BYTES.charAt(behind));
+            return byteOf(ahead) + letters + byteOf(behind);
+        }
+
+        private static String byteOf(int sign) {
+            return sign < 0 ? "" : "" + BYTES.charAt(sign);
         }
     }
 

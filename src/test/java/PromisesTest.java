@@ -1,12 +1,5 @@
 /** Every promise with answers worked out by hand: ordinary calls, edges, and calls that are refused. */
-public final class PromisesTest {
-    private static final int NONE = LentMargins.NONE;
-    private static final Class<?> INDEX = IndexOutOfBoundsException.class;
-    private static final Class<?> ARGUMENT = IllegalArgumentException.class;
-    private static final Class<?> STATE = IllegalStateException.class;
-
-    private final Check check = new Check();
-
+public final class PromisesTest extends Cases {
     public static void main(String[] args) {
         PromisesTest test = new PromisesTest();
         test.newObject();
@@ -35,45 +28,6 @@ public final class PromisesTest {
         test.undo();
         test.digest();
         test.check.finish();
-    }
-
-    /** An object with the words of a text, which is emptied again. */
-    private static LentMargins of(String text) {
-        LentMargins m = new LentMargins();
-        typeAll(m, text);
-        m.readWords();
-        m.clearText();
-        return m;
-    }
-
-    private static void typeAll(LentMargins m, String text) {
-        for (char c : text.toCharArray()) {
-            m.type(c);
-        }
-    }
-
-    private void lineIs(String what, LentMargins m, int line, int... due) {
-        for (int i = 0; i < 12; i++) {
-            check.same(what + ", line " + line + " value " + i, due[i], m.line(line, i));
-        }
-    }
-
-    private void pageIs(String what, LentMargins m, int page, int... due) {
-        for (int i = 0; i < 6; i++) {
-            check.same(what + ", page " + page + " value " + i, due[i], m.page(page, i));
-        }
-    }
-
-    private void wordIs(String what, LentMargins m, int word, int... due) {
-        for (int i = 0; i < 9; i++) {
-            check.same(what + ", word " + word + " value " + i, due[i], m.word(word, i));
-        }
-    }
-
-    private void wholeIs(String what, LentMargins m, int... due) {
-        for (int i = 0; i < 14; i++) {
-            check.same(what + ", whole value " + i, due[i], m.whole(i));
-        }
     }
 
     private void newObject() {
