@@ -216,12 +216,12 @@ public final class LentMargins {
         checkRange(most, 0, 20);
         int present = script.setting(MEASURE);
         int last = Math.min(GREATEST_MEASURE, present + most);
-        int best = present;
-        int least = Integer.MAX_VALUE;
+        int best = NONE;
+        int least = 0;
         for (int measure = Math.max(LEAST_MEASURE, present - most); measure <= last; measure++) {
             tryMeasure(measure);
             int squares = trial.squaresOfEmpty();
-            if (squares < least) {
+            if (best == NONE || squares < least) {
                 least = squares;
                 best = measure;
             }

@@ -1,144 +1,132 @@
 import java.io.IOException;
-import java.lang.reflect.Constructor;
 import java.lang.reflect.Field;
 import java.lang.reflect.Method;
 import java.lang.reflect.Modifier;
 import java.nio.file.Files;
 import java.nio.file.Path;
+import java.util.ArrayList;
 import java.util.Arrays;
 import java.util.List;
 import java.util.TreeSet;
+import java.util.regex.Matcher;
 import java.util.regex.Pattern;
 
-/** The face of the class, and those rules of LANGUAGE.md that its text shows. The argument is its file. */
+/** Those rules of LANGUAGE.md that the text of the class shows. The argument is its file. */
 public final class LanguageTest {
-    private static final String I = "IndexOutOfBoundsException";
-    private static final String A = "IllegalArgumentException";
-    private static final String S = "IllegalStateException";
-    private static final String[] FACE = {
-        "int insert(int int int int int) " + A + " " + S + " " + I,
-        "int removeWord(int) " + I,
-        "int endParagraph(int boolean) " + I,
-        "int setSigns(int int int) " + A + " " + I,
-        "int set(int int) " + A,
-        "int setShare(int int) " + A + " " + I,
-        "int word(int int) " + A + " " + I,
-        "int line(int int) " + A + " " + I,
-        "int page(int int) " + A + " " + I,
-        "int whole(int) " + A,
-        "int share(int) " + I,
-        "int unevenness() ",
-        "double meanEmpty() ",
-        "int linesWith(int) " + A,
-        "int measureFor(int) " + A,
-        "int linesUnlent() ",
-        "int evenest(int) " + A,
-        "int type(int) " + A + " " + S,
-        "int clearText() ",
-        "int readWords() ",
-        "int lineByte(int int) " + A + " " + I,
-        "int undo() " + S,
-        "long digest() "
-    };
     private static final String[] FORBIDDEN = {
         "->", "::", "\\bimport\\b", "\\bpackage\\b", "\\bfinally\\b", "\\bassert\\b", "\\bsynchronized\\b",
-        "\\bcatch\\b", "\\bfloat\\b", "\\.equals\\(", "hashCode", "toString", "\\+ *\"", "\" *\\+", "Exact\\(",
-        "\\bSystem\\.(?!arraycopy)", "\\bThread\\b", "\\bRandom\\b", "\\bvar\\b", "static \\{", "protected "
+        "\\bcatch\\b", "\\bfloat\\b", "\\.equals\\(", "hashCode", "toString", "\\+ *\"", "\" *\\+", "\\bvar\\b",
+        "static \\{", "\\bprotected\\b", "\\bpublic static (?!final)"
     };
+    /** An array that is a constant is never changed. */
+    private static final String CONSTANT_CHANGED = "\\b[A-Z][A-Z_]+\\[[^\\]]*\\] *([-+*/]?=[^=]|\\+\\+|--)";
+    private static final String EXCEPTIONS = "(IllegalState|IllegalArgument|IndexOutOfBounds)Exception";
+    private static final String LIBRARY = "String|StringBuilder|Integer|Long|Math|System|Arrays|ArrayList|List|Iterator"
+        + "|Iterable|Comparable|" + EXCEPTIONS;
+    /** The functions that rule 4 names; no constant of the library is among them. */
+    private static final String FUNCTIONS = "System\\.arraycopy\\(|Arrays\\.(copyOf|copyOfRange|fill)\\(|List\\.of\\("
+        + "|(Integer|Long|Math)\\.(compare|max|min|abs|bitCount|floorDiv|floorMod)\\(";
+    private static final Pattern CLASS_USED = Pattern.compile("\\b([A-Z]\\w*[a-z]\\w*)\\b(\\.\\w+\\(?)?");
+    private static final String MADE = "throw new " + EXCEPTIONS + "\\(\"[^\"]*\"\\);"
+        + "| {4,8}(private )?final \\S+ \\w+ = (\\{?(, )?new \\w+[\\[(].*[\\])])+\\}?;";
 
-    private static final Check CHECK = new Check();
+    private final Check check = new Check();
+    private final List<String> lines;
+    /** The same lines, empty where they are comments. */
+    private final List<String> code = new ArrayList<>();
+
+    private LanguageTest(List<String> lines) {
+        this.lines = lines;
+        boolean inComment = false;
+        for (String line : lines) {
+            String trimmed = line.trim();
+            inComment |= trimmed.startsWith("/*");
+            code.add(inComment || trimmed.startsWith("//") ? "" : line);
+            inComment &= !trimmed.endsWith("*/");
+        }
+    }
 
     public static void main(String[] args) throws IOException {
-        face();
-        fields();
-        source(Files.readAllLines(Path.of(args[0])));
-        CHECK.finish();
+        LanguageTest test = new LanguageTest(Files.readAllLines(Path.of(args[0])));
+        test.classes();
+        test.staticFields(LentMargins.class);
+        test.words();
+        test.library();
+        test.lengths();
+        test.check.finish();
     }
 
-    private static void face() {
-        TreeSet<String> got = new TreeSet<>();
+    private void classes() {
         TreeSet<String> publicNames = new TreeSet<>();
-        for (Method method : LentMargins.class.getDeclaredMethods()) {
-            if (Modifier.isPublic(method.getModifiers())) {
-                publicNames.add(method.getName());
-                got.add(method.getReturnType() + " " + method.getName() + "(" + names(method.getParameterTypes())
-                    + ") " + names(method.getExceptionTypes()));
-                CHECK.holds(method + " belongs to objects", !Modifier.isStatic(method.getModifiers()));
-            } else {
-                CHECK.holds(method + " is private", Modifier.isPrivate(method.getModifiers()));
-            }
+        for (Method method : LentMargins.class.getMethods()) {
+            publicNames.add(method.getName());
         }
-        CHECK.holds("the methods are " + got + " and that", got.equals(new TreeSet<>(List.of(FACE))));
-        noNameTwice(publicNames);
-        Constructor<?>[] constructors = LentMargins.class.getDeclaredConstructors();
-        CHECK.same("constructors", 1, constructors.length);
-        CHECK.same("its arguments", 0, constructors[0].getParameterCount());
-        CHECK.holds("it is public", Modifier.isPublic(constructors[0].getModifiers()));
-        CHECK.holds("the class is final", Modifier.isFinal(LentMargins.class.getModifiers()));
-    }
-
-    private static void noNameTwice(TreeSet<String> publicNames) {
+        check.holds("the classes are at most 12", LentMargins.class.getDeclaredClasses().length <= 11);
+        noNameTwice(LentMargins.class, publicNames);
         for (Class<?> inside : LentMargins.class.getDeclaredClasses()) {
-            CHECK.holds(inside + " is static", Modifier.isStatic(inside.getModifiers()));
-            CHECK.holds(inside + " has at most 20 fields", countOfOwn(inside) <= 20);
-            for (Method method : inside.getDeclaredMethods()) {
-                CHECK.holds(method + " has a name of its own", !publicNames.contains(method.getName()));
-            }
-        }
-        for (Method method : LentMargins.class.getDeclaredMethods()) {
-            boolean isPublic = Modifier.isPublic(method.getModifiers());
-            CHECK.holds(method + " has a name of its own", isPublic || !publicNames.contains(method.getName()));
-            CHECK.holds(method + " takes at most seven", method.getParameterCount() <= 7);
+            check.holds(inside + " is static", Modifier.isStatic(inside.getModifiers()));
+            noNameTwice(inside, publicNames);
+            staticFields(inside);
         }
     }
 
-    private static long countOfOwn(Class<?> type) {
-        return Arrays.stream(type.getDeclaredFields()).filter(f -> !Modifier.isStatic(f.getModifiers())).count();
-    }
-
-    private static String names(Class<?>[] types) {
-        TreeSet<String> sorted = new TreeSet<>();
-        StringBuilder inOrder = new StringBuilder();
-        for (Class<?> type : types) {
-            sorted.add(type.getSimpleName());
-            inOrder.append(inOrder.length() == 0 ? "" : " ").append(type.getSimpleName());
+    private void noNameTwice(Class<?> type, TreeSet<String> publicNames) {
+        for (Method method : type.getDeclaredMethods()) {
+            boolean isFace = type == LentMargins.class && Modifier.isPublic(method.getModifiers());
+            check.holds(method + " has a name of its own", isFace || !publicNames.contains(method.getName()));
+            check.holds(method + " takes at most seven", method.getParameterCount() <= 7);
         }
-        boolean exceptions = types.length > 0 && Throwable.class.isAssignableFrom(types[0]);
-        return exceptions ? String.join(" ", sorted) : inOrder.toString();
+        long fields = Arrays.stream(type.getDeclaredFields()).filter(f -> !Modifier.isStatic(f.getModifiers())).count();
+        check.holds(type + " has at most 20 fields", fields <= 20);
     }
 
-    private static void fields() {
-        for (Field field : LentMargins.class.getDeclaredFields()) {
-            boolean constant = field.getName().equals("NONE");
-            CHECK.holds(field + " is private or NONE", constant || Modifier.isPrivate(field.getModifiers()));
-            if (constant) {
-                CHECK.holds("NONE is public", Modifier.isPublic(field.getModifiers()));
-            }
+    private void staticFields(Class<?> type) {
+        for (Field field : type.getDeclaredFields()) {
             boolean isStatic = Modifier.isStatic(field.getModifiers());
-            CHECK.holds(field + " is final if static", !isStatic || Modifier.isFinal(field.getModifiers()));
+            check.holds(field + " is final if static", !isStatic || Modifier.isFinal(field.getModifiers()));
         }
     }
 
-    private static void source(List<String> lines) {
-        boolean inComment = false;
+    private void words() {
+        for (int i = 0; i < lines.size(); i++) {
+            String where = "line " + (i + 1);
+            String line = code.get(i);
+            for (String forbidden : FORBIDDEN) {
+                check.holds(where + " without " + forbidden, !Pattern.compile(forbidden).matcher(line).find());
+            }
+            check.holds(where + " changes no constant", !Pattern.compile(CONSTANT_CHANGED).matcher(line).find());
+            // All rows are made with their object, so that no run of calls fills the room.
+            boolean makes = line.contains("new ");
+            check.holds(where + " makes nothing in a call", !makes || Pattern.compile(MADE).matcher(line).find());
+        }
+    }
+
+    private void library() {
+        TreeSet<String> own = new TreeSet<>(List.of("LentMargins"));
+        for (Class<?> inside : LentMargins.class.getDeclaredClasses()) {
+            own.add(inside.getSimpleName());
+        }
+        for (int i = 0; i < lines.size(); i++) {
+            Matcher used = CLASS_USED.matcher(code.get(i).replaceAll("\"[^\"]*\"", "\"\""));
+            while (used.find()) {
+                boolean isOwn = own.contains(used.group(1));
+                check.holds("line " + (i + 1) + " may use " + used.group(1), isOwn || used.group(1).matches(LIBRARY));
+                boolean allowed = isOwn || used.group(2) == null || used.group().matches(FUNCTIONS);
+                check.holds("line " + (i + 1) + " may use " + used.group(), allowed);
+            }
+        }
+    }
+
+    private void lengths() {
         int methodFrom = -1;
         for (int i = 0; i < lines.size(); i++) {
             String line = lines.get(i);
-            CHECK.holds("line " + (i + 1) + " is at most 120 long", line.length() <= 120);
-            String trimmed = line.trim();
-            inComment = inComment || trimmed.startsWith("/*");
-            if (!inComment && !trimmed.startsWith("//")) {
-                for (String forbidden : FORBIDDEN) {
-                    boolean found = Pattern.compile(forbidden).matcher(line).find();
-                    CHECK.holds("line " + (i + 1) + " without " + forbidden, !found);
-                }
-            }
-            inComment = inComment && !trimmed.endsWith("*/");
+            check.holds("line " + (i + 1) + " is at most 120 long", line.length() <= 120);
             if (line.matches("( {4}| {8})[a-zA-Z].*\\(.*\\{")) {
                 methodFrom = i;
             }
             if (line.matches("( {4}| {8})\\}") && methodFrom >= 0) {
-                CHECK.holds("the method at line " + (methodFrom + 1) + " is short", i - methodFrom <= 60);
+                check.holds("the method at line " + (methodFrom + 1) + " is short", i - methodFrom <= 60);
             }
         }
     }
